@@ -402,8 +402,7 @@ public final class LetterNights {
         if (n < 0 || k < 0 || k > ROWS_MOST) {
             return BAD_NUMBER;
         }
-        futures.begin(scene);
-        return futures.rowsFrom(n, k, 0);
+        return futures.rowsOf(scene, n, k);
     }
 
     // ---- long
@@ -470,16 +469,14 @@ public final class LetterNights {
         if (n < 0 || n > TURNS_MOST) {
             return BAD_NUMBER;
         }
-        futures.begin(scene);
-        return futures.spanByTurns(n, 0);
+        return futures.spanOfTurns(scene, n);
     }
 
     public int best(int n) {
         if (n < 0 || n > TURNS_MOST) {
             return BAD_NUMBER;
         }
-        futures.begin(scene);
-        futures.spanByTurns(n, 0);
+        futures.spanOfTurns(scene, n);
         return n == 0 ? NONE : futures.tableInRow(0);
     }
 
@@ -694,17 +691,13 @@ public final class LetterNights {
             }
         }
 
-        static int ruleOf(int table, int letter) {
-            return table * KINDS + letter;
-        }
-
         int sizeOf(int table, int letter) {
-            int rule = ruleOf(table, letter);
+            int rule = table * KINDS + letter;
             return rule >= 0 && rule < sizes.length ? sizes[rule] : 0;
         }
 
         int childOf(int table, int letter, int i) {
-            int at = ruleOf(table, letter) * CHILDREN_MOST + i;
+            int at = (table * KINDS + letter) * CHILDREN_MOST + i;
             return at >= 0 && at < children.length ? children[at] : 0;
         }
 
@@ -822,7 +815,7 @@ public final class LetterNights {
             if (!takeLetters(1, oneLetter, 0) || !takeSign(':')) {
                 return false;
             }
-            int rule = Town.ruleOf(table, oneLetter[0]);
+            int rule = table * KINDS + oneLetter[0];
             if (rule < 0 || rule >= town.sizes.length) {
                 return fail(FAULT_BOUNDS);
             }
@@ -1759,7 +1752,7 @@ public final class LetterNights {
             town = first;
         }
 
-        void begin(Scene scene) {
+        private void begin(Scene scene) {
             town = scene.town;
             System.arraycopy(scene.counts, 0, counts, 0, KINDS);
         }
@@ -1781,9 +1774,11 @@ public final class LetterNights {
         }
 
         private long spanBy(int depth, int table) {
+            int at = depth * KINDS;
+            int rule = table * KINDS;
             long sum = 0;
             for (int x = 0; x < KINDS; x++) {
-                sum += counts[depth * KINDS + x] * town.sizeOf(table, x);
+                sum += counts[at + x] * town.sizes[rule + x];
             }
             return sum;
         }
@@ -1797,10 +1792,11 @@ public final class LetterNights {
             int from = depth * KINDS;
             int to = from + KINDS;
             for (int x = 0; x < KINDS; x++) {
+                int rule = table * KINDS + x;
                 long many = counts[from + x];
-                int size = many == 0 ? 0 : town.sizeOf(table, x);
+                int size = many == 0 ? 0 : town.sizes[rule];
                 for (int i = 0; i < size; i++) {
-                    counts[to + town.childOf(table, x, i)] += many;
+                    counts[to + town.children[rule * CHILDREN_MOST + i]] += many;
                 }
             }
         }
@@ -1841,7 +1837,12 @@ public final class LetterNights {
             return false;
         }
 
-        int rowsFrom(long n, int nights, int depth) {
+        int rowsOf(Scene scene, long n, int nights) {
+            begin(scene);
+            return rowsFrom(n, nights, 0);
+        }
+
+        private int rowsFrom(long n, int nights, int depth) {
             if (depth >= nights || depth >= DEEPEST) {
                 return spanAt(depth) == n ? 1 : 0;
             }
@@ -1912,7 +1913,12 @@ public final class LetterNights {
         }
 
         /** The length in the end; row[0] is the first table by which the first one does best. */
-        long spanByTurns(int nights, int depth) {
+        long spanOfTurns(Scene scene, int nights) {
+            begin(scene);
+            return spanByTurns(nights, 0);
+        }
+
+        private long spanByTurns(int nights, int depth) {
             if (depth >= nights || depth >= DEEPEST) {
                 return spanAt(depth);
             }
@@ -1990,7 +1996,8 @@ public final class LetterNights {
 
         void clear(int entries) {
             slots = 64;
-            for (int i = 0; i < 20 && slots < 2 * entries; i++) {
+            // A quarter more than there can be keeps the ways to a free slot short.
+            for (int i = 0; i < 20 && slots < entries + entries / 4; i++) {
                 slots *= 2;
             }
             if (slots > keys.length) {
