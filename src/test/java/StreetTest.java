@@ -8,6 +8,7 @@ public final class StreetTest {
         tape();
         streets();
         faults();
+        cutTexts();
         laterLines();
         tokens();
         becomes();
@@ -152,6 +153,11 @@ public final class StreetTest {
         fault(HEAD + "picks : ((((((@", 1, head + 14);
         fault(HEAD + "picks : ((((((" + (char) 233, 1, head + 14);
         fault(HEAD + "picks : (((((( not", 2, head + 15);
+        fault(HEAD + "ztands a;", 2, head);
+        fault(HEAD + "picks : nest;", 2, head + 8);
+        fault(HEAD + "picks : resu;", 2, head + 8);
+        fault(HEAD + "picks : res;", 2, head + 8);
+        fault(HEAD + "picks : rests;", 2, head + 8);
         good(HEAD + "picks : ((((((1))))));", 2);
         good(HEAD + "sleeps : not not not not not not 1 = 1;", 2);
         good(HEAD + "picks : (1) + (((((2))))) * ((((((3))))));", 2);
@@ -159,6 +165,33 @@ public final class StreetTest {
 
     private static void good(String text, int lines) {
         due.is("3: street of " + text, Texts.tell(new LetterNights(), text), lines);
+    }
+
+    /** Only the first n bytes are the text, whatever stands on the tape behind them. */
+    private static void cutTexts() {
+        String whole = HEAD + "stands abg;";
+        for (int n = 0; n < whole.length() - 1; n++) {
+            LetterNights x = new LetterNights();
+            for (int from = 0; from < whole.length(); from += 20) {
+                int[] f = Texts.fed(whole, from);
+                x.feed(f[0], f[1], f[2], f[3], f[4]);
+            }
+            boolean lineEnds = n == HEAD.length();
+            boolean word = n > HEAD.length() && n < HEAD.length() + 6;
+            boolean headWord = n > 0 && n < 6 || n > 7 && n < 13 || n > 16 && n < 20;
+            int place = headWord ? (n < 6 ? 0 : n < 13 ? 7 : 16) : word ? HEAD.length() : n == whole.length() - 1 ? 30 : n;
+            due.is("3: the first " + n, x.street(n), lineEnds ? 1 : -32);
+            due.is("4: the place in the first " + n, x.fault(1), lineEnds ? -1 : place);
+        }
+        StringBuilder full = new StringBuilder(HEAD);
+        while (full.length() < 898) {
+            full.append(full.length() % 2 == 0 ? ' ' : '\n');
+        }
+        fault(full + "st", 2, 898);
+        fault(full + " 7", 2, 899);
+        fault(full + " ;", 2, 899);
+        fault(full + "10", 2, 898);
+        good(full + "  ", 1);
     }
 
     private static void laterLines() {

@@ -154,6 +154,10 @@ public final class WordsTest {
         fate("rule 0 a : bcd;rule 0 b : bc;rule 0 c : nothing;rule 0 d : dd;", "310311", "------");
         fate("rule 0 a : bbbb;", "111111", "------");
         fate("rule 0 a : b;rule 0 b : cc;rule 0 c : cd;rule 0 d : e;rule 0 e : d;", "222111", "111---");
+        fate("rule 0 b : ba;rule 0 c : bc;rule 0 d : dc;rule 0 e : de;rule 0 f : fe;", "122222", "-12345");
+        fate("rule 0 a : c;rule 0 b : a;rule 0 c : bd;", "222111", "111---");
+        fate("rule 0 f : e;rule 0 e : d;rule 0 d : c;rule 0 c : b;rule 0 b : a;rule 0 a : nothing;", "000000", "------");
+        fate("rule 0 f : e;rule 0 e : d;rule 0 d : c;rule 0 c : b;rule 0 b : a;rule 0 a : ff;", "333333", "------");
         LetterNights x = new LetterNights();
         due.is("22: no table", x.fate(1, 0), -2);
         due.is("22: no table", x.fate(-1, 0), -2);
