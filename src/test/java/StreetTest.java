@@ -309,6 +309,14 @@ public final class StreetTest {
         truth("1 + 1 = 2 * 1", true);
         truth("(1) + 1 > 3 - 2", true);
         truth("0 - 1 < 0", true);
+        String deep = "1";
+        String deepElse = "2";
+        for (int i = 0; i < 6; i++) {
+            deep = "if 1 = 2 or 1 = 1 and 0 < 1 + 1 * " + deep + " then 1 else 0 end";
+            deepElse = "if 1 = 2 then 1 else 0 + 1 * " + deepElse + " end";
+        }
+        truth("1 = 2 or 1 = 1 and 0 < 1 + 1 * " + deep, true);
+        truth("1 = 2 or 1 = 1 and 2 = 0 + 1 * " + deepElse, true);
     }
 
     private static void lengths() {
