@@ -7,25 +7,36 @@ public final class FarTest {
     public static void main(String[] args) {
         int far = 0;
         for (int seed = 0; seed < 400; seed++) {
-            Random random = new Random(seed);
-            String text = new Texts(random).good();
-            String growing = seed % 2 == 0 ? "rule 0 a : abc;rule 0 b : dba;" : "rule 0 a : ba;rule 0 b : acb;stands fab;";
-            LetterNights x = Due.street(text.length() + growing.length() > 900 ? text : text + growing);
-            for (int i = 0; i < 60; i++) {
-                x.image(0);
-                long was = x.length();
-                // Mostly nights by which it doesn't get shorter, so that it gets far.
-                if (x.night(random.nextInt(4)) < was && random.nextInt(12) != 0) {
-                    x.restore(0);
-                }
-            }
+            LetterNights x = farStreet(seed);
             far += x.length() > 1_000_000_000L ? 1 : 0;
             counts(x);
-            places(x, random);
-            words(x, random);
+            places(x, new Random(seed));
+            for (int more = 1; more <= 2; more++) {
+                words(farStreet(seed), new Random(seed + 1000 * more));
+            }
         }
         due.holds("many streets are very long: " + far, far > 40);
         due.close("FarTest");
+    }
+
+    /** Made by 170 calls at most. */
+    private static LetterNights farStreet(int seed) {
+        Random random = new Random(seed);
+        String text = new Texts(random).good();
+        String growing = seed % 2 == 0 ? "rule 0 a : abc;rule 0 b : dba;" : "rule 0 a : ba;rule 0 b : acb;stands fab;";
+        LetterNights x = Due.street(text.length() + growing.length() > 900 ? text : text + growing);
+        long was = x.length();
+        for (int i = 0; i < 60; i++) {
+            long length = x.night(random.nextInt(4));
+            // Mostly nights by which it doesn't get shorter, so that it gets far.
+            boolean keep = length >= was || random.nextInt(12) == 0;
+            if (length >= 0 && keep) {
+                was = length;
+            } else if (length >= 0) {
+                x.undo(1);
+            }
+        }
+        return x;
     }
 
     private static void counts(LetterNights x) {
@@ -69,7 +80,7 @@ public final class FarTest {
     }
 
     private static void words(LetterNights x, Random random) {
-        for (int i = 0; i < 6 && x.length() > 6; i++) {
+        for (int i = 0; i < 3 && x.length() > 6; i++) {
             int size = 1 + random.nextInt(5);
             long place = Math.min(somePlace(x, random), x.length() - size);
             long[] word = new long[size];

@@ -9,7 +9,8 @@ import java.util.Random;
 
 /** Runs of calls by chance (with fixed seeds): LetterNights must answer as the plain Model does. */
 public final class ModelTest {
-    private static final int CALLS = 500;
+    // What an object answers behind its 512th call is free, and the last step may take 60 calls.
+    private static final int CALLS = 440;
 
     private final Random random;
     private final Texts texts;
@@ -203,7 +204,7 @@ public final class ModelTest {
     }
 
     private void askTexts() throws Exception {
-        while (calls < CALLS - 60) {
+        while (calls < CALLS) {
             tell(texts.doubtful());
             ask("told", 9);
             ask("picks");

@@ -21,14 +21,15 @@ public final class RoomTest {
         // The one great call is attempt() of 6561 rows: its tally is made once.
         due.holds("calls make little: " + (made() - before), made() - before < 1_300_000);
         before = made();
-        for (int i = 0; i < 20; i++) {
+        for (int i = 0; i < 4; i++) {
             calls(x);
         }
         due.holds("calls use again what was made: " + (made() - before), made() - before < 20_000);
+        LetterNights y = new LetterNights();
         before = made();
         for (int i = 0; i < 100; i++) {
-            x.feed(0x20202020, 0x20202020, 0x20202020, 0x20202020, 0x20202020);
-            x.street(20);
+            y.feed(0x20202020, 0x20202020, 0x20202020, 0x20202020, 0x20202020);
+            y.street(20);
         }
         due.holds("texts with a fault: " + (made() - before), made() - before < 100 * 1_200);
         due.close("RoomTest");
