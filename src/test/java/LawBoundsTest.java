@@ -112,6 +112,25 @@ public final class LawBoundsTest {
         x.night(0);
         due.is("6: efdddef", x.picks(), -1);
         due.is("7: efdddef", x.length(), 7);
+        // What stands at the edge becomes nothing night by night, so that what stood further in comes to it.
+        LetterNights y = Due.street("street tables 2 moon 0;rule 0 a : bcd;rule 0 d : nothing;rule 1 b : nothing;rule 0 c : nothing;rule 0 b : fe;rule 1 c : ab;");
+        y.night(1);
+        due.is("42: bcd, first", y.told(4), 1);
+        due.is("42: bcd, last", y.told(5), 3);
+        y.image(0);
+        y.night(1);
+        due.is("42: fe, first", y.told(4), 5);
+        due.is("42: fe, last", y.told(5), 4);
+        y.restore(0);
+        y.night(2);
+        due.is("42: abd, first", y.told(4), 0);
+        due.is("42: abd, last", y.told(5), 3);
+        due.is("42: abd, kinds", y.told(6), 3);
+        y.night(1);
+        due.is("42: bcdfe, first", y.told(4), 1);
+        due.is("42: bcdfe, last", y.told(5), 4);
+        y.night(2);
+        due.is("42: abdfe, first", y.told(4), 0);
     }
 
     private static void nothingLeft() {
@@ -208,8 +227,8 @@ public final class LawBoundsTest {
             boolean b = (bits & 2) != 0;
             boolean c = (bits & 4) != 0;
             String p = (a ? 1 : 2) + " = 1";
-            String q = (b ? 1 : 2) + " = 1";
-            String r = (c ? 1 : 2) + " = 1";
+            String q = (b ? 1 : 2) + " < 2";
+            String r = (c ? 2 : 1) + " > 1";
             holds(p + " or " + q + " and " + r, a || b && c);
             holds(p + " and " + q + " or " + r, a && b || c);
             holds("[" + p + " or " + q + "] and " + r, (a || b) && c);

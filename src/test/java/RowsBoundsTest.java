@@ -1,4 +1,9 @@
 import java.math.BigInteger;
+import java.util.ArrayList;
+import java.util.Collections;
+import java.util.HashMap;
+import java.util.List;
+import java.util.Map;
 
 /** The edges of rows, long, by turns and chances (promises 25 to 36). */
 public final class RowsBoundsTest {
@@ -22,6 +27,7 @@ public final class RowsBoundsTest {
         attemptsOfMany();
         turns();
         turnsOfLikeOnes();
+        askedAlone();
         chancesOfSoMany();
         chancesInLowestTerms();
         means();
@@ -327,35 +333,80 @@ public final class RowsBoundsTest {
         due.is("32: none", one.attempt(0), -1);
     }
 
-    /** Rows of eight nights: those are counted one by one here. */
+    /** What a, b, .. become, by each table; all of them have many more lengths than rows of one length. */
+    private static final String[][] SCATTERED = {
+        {"c adbb bacc cd", "adaa dab c cacc", "dbda cac cda aaab"},
+        {"abcc caab dd ab", "cbc adc cbbb aab", "acc aadd dcba -"},
+        {"bc b accd ba", "abd bc cdcb ddcd", "dadc da db cab"},
+        {"c bbaa abbc d", "b aaab bc d", "bbac aba cbbb d"},
+        {"aa - c d", "aaa bb c d", "aaaa b c d"},
+        {"a b c d", "a bb c d", "aa - c d"},
+        {"ab b c d", "ac b c d", "a b c d"}
+    };
+
+    /** All rows of eight nights: they are counted one by one here. */
     private static void attemptsOfMany() {
-        int[][] factors = {{2, 3, 4}, {1, 1, 2}, {4, 4, 1}, {3, 3, 3}, {0, 1, 2}};
-        String[] becomes = {"nothing", "a", "aa", "aaa", "aaaa"};
-        for (int[] f : factors) {
-            String rules = "rule 0 a : " + becomes[f[0]] + ";rule 1 a : " + becomes[f[1]] + ";rule 2 a : " + becomes[f[2]] + ";";
-            rules += "rule 2 b : nothing;rule 1 b : bb;stands ab;";
-            int least = Integer.MAX_VALUE;
-            int best = -1;
+        for (String[] tables : SCATTERED) {
+            StringBuilder rules = new StringBuilder();
             for (int table = 0; table < 3; table++) {
-                java.util.Map<Long, Integer> many = new java.util.HashMap<>();
-                for (int row = 0; row < 6561; row++) {
-                    long a = 1;
-                    long b = 1;
-                    for (int i = 0, rest = row; i < 9; i++, rest /= 3) {
-                        int t = i < 8 ? rest % 3 : table;
-                        a *= f[t];
-                        b *= t == 0 ? 1 : t == 1 ? 2 : 0;
-                    }
-                    many.merge(a + b, 1, Integer::sum);
-                }
-                int greatest = java.util.Collections.max(many.values());
-                if (greatest < least) {
-                    least = greatest;
-                    best = table;
+                for (int letter = 0; letter < 4; letter++) {
+                    String becomes = childOf(tables, table, letter);
+                    rules.append("rule ").append(table).append(' ').append((char) ('a' + letter)).append(':');
+                    rules.append(becomes.isEmpty() ? "nothing" : becomes).append(';');
                 }
             }
-            attempt(rules, best, -1, -1, -1, -1, -1, -1, -1, -1);
+            LetterNights x = Due.street("street tables 3 moon 0;" + rules);
+            int[] best = new int[9];
+            for (int nights = 1; nights <= 8; nights++) {
+                best[nights] = bestOf(tables, nights);
+            }
+            // One behind the other: nothing of a call's counting stays for the next one.
+            for (int nights : new int[] {8, 1, 8, 3, 7, 2, 6, 6, 1, 5, 4, 8}) {
+                long[] unknown = new long[nights];
+                java.util.Arrays.fill(unknown, -1);
+                Due.tray(x, 0, unknown);
+                due.is("32: behind " + nights + " nights, by " + rules, x.attempt(0), best[nights]);
+            }
         }
+    }
+
+    private static String childOf(String[] tables, int table, int letter) {
+        return tables[table].split(" ")[letter].replace("-", "");
+    }
+
+    private static int bestOf(String[] tables, int nights) {
+        List<long[]> streets = new ArrayList<>();
+        streets.add(new long[] {1, 0, 0, 0});
+        for (int night = 0; night < nights; night++) {
+            List<long[]> next = new ArrayList<>();
+            for (long[] street : streets) {
+                for (int table = 0; table < 3; table++) {
+                    next.add(behind(tables, table, street));
+                }
+            }
+            streets = next;
+        }
+        int[] greatest = new int[3];
+        for (int table = 0; table < 3; table++) {
+            Map<Long, Integer> many = new HashMap<>();
+            for (long[] street : streets) {
+                long[] then = behind(tables, table, street);
+                many.merge(then[0] + then[1] + then[2] + then[3], 1, Integer::sum);
+            }
+            greatest[table] = Collections.max(many.values());
+        }
+        int least = Math.min(greatest[0], Math.min(greatest[1], greatest[2]));
+        return greatest[0] == least ? 0 : greatest[1] == least ? 1 : 2;
+    }
+
+    private static long[] behind(String[] tables, int table, long[] street) {
+        long[] then = new long[4];
+        for (int letter = 0; letter < 4; letter++) {
+            for (char child : childOf(tables, table, letter).toCharArray()) {
+                then[child - 'a'] += street[letter];
+            }
+        }
+        return then;
     }
 
     private static void turn(LetterNights x, int n, long length, int best) {
@@ -400,6 +451,57 @@ public final class RowsBoundsTest {
         turn(y, 2, 2, 0);
         turn(y, 3, 4, 0);
         turn(y, 4, 4, 0);
+    }
+
+    /** Each of them is the first question, or the first one behind others of another street. */
+    private static void askedAlone() {
+        for (boolean behindOthers : new boolean[] {false, true}) {
+            for (int question = 0; question < 11; question++) {
+                LetterNights x = Due.street("street tables 3 moon 0;rule 1 a : nothing;rule 2 a : aaa;");
+                Due.tray(x, 0, -1, 3, -1);
+                if (behindOthers) {
+                    askAll(x);
+                }
+                Texts.tell(x, "street tables 3 moon 0;stands ab;rule 0 a : nothing;rule 1 a : aa;rule 2 b : nothing;");
+                // Behind a first night of length 1 there are b, b, nothing, nothing, aa, a.
+                Due.tray(x, 0, 1, -1);
+                long[] dueAnswers = {0, 2, 0, 2, 6, 5 + 7, 3, 1, 1, 5, 3};
+                due.is("25 to 36: question " + question + " alone", ask(x, question), dueAnswers[question]);
+            }
+        }
+    }
+
+    private static void askAll(LetterNights x) {
+        for (int question = 0; question < 11; question++) {
+            ask(x, question);
+        }
+    }
+
+    private static long ask(LetterNights x, int question) {
+        switch (question) {
+            case 0:
+                return x.comes(0);
+            case 1:
+                return x.soonest(5);
+            case 2:
+                return x.way(0, 0);
+            case 3:
+                return x.rows(0, 2);
+            case 4:
+                return x.longBy(0);
+            case 5:
+                return x.tables(0, 1) + x.tables(0, 0);
+            case 6:
+                return x.turned(1);
+            case 7:
+                return x.best(3);
+            case 8:
+                return x.attempt(0);
+            case 9:
+                return x.mean(1, 0);
+            default:
+                return x.mean(1, 1);
+        }
     }
 
     private static void chance(LetterNights x, int n, long above, long below) {

@@ -20,6 +20,7 @@ public final class TextBoundsTest {
         rules();
         laterLines();
         lineByLine();
+        otherWords();
         sumsAndTruths();
         deep();
         deepWays();
@@ -91,8 +92,9 @@ public final class TextBoundsTest {
 
     private static void partsOfTheTape() {
         String text = HEAD + "stands ab;  !!!!!!!";
-        int[] lengths = {AT, AT + 10, AT + 12, AT + 13, 40};
-        int[] answers = {1, 2, 2, -31, -31};
+        int[] lengths = {AT, AT + 10, AT + 12, AT + 13, 40, AT - 1, AT + 3, AT + 8, AT + 9};
+        int[] answers = {1, 2, 2, -31, -31, -32, -32, -32, -32};
+        int[] places = {-1, -1, -1, AT + 12, AT + 12, AT - 1, AT, AT + 8, AT + 9};
         for (int i = 0; i < lengths.length; i++) {
             LetterNights x = new LetterNights();
             int[] f = Texts.fed(text, 0);
@@ -104,6 +106,7 @@ public final class TextBoundsTest {
             due.is("3: the tape stays", x.told(8), 40);
             due.is("4: it wasn't read", x.fault(1), -1);
             due.is("3: the first " + lengths[i], x.street(lengths[i]), answers[i]);
+            due.is("4: where, of the first " + lengths[i], x.fault(1), places[i]);
             due.is("3: of all the tape nothing is left", x.told(8), 0);
         }
         LetterNights x = new LetterNights();
@@ -352,6 +355,26 @@ public final class TextBoundsTest {
         bad("4: without a sign", HEAD + "picks 1;", 2, AT + 6);
         bad("4: without a sign", HEAD + "sleeps 1 = 1;", 2, AT + 7);
         bad("4: two words", HEAD + "stands a a;", 2, AT + 9);
+    }
+
+    /** Each word of the language, changed at its first letter or its last, longer or shorter by one. */
+    private static void otherWords() {
+        String whole = "street tables 2 moon 3 ; stands a ; rule 0 a : nothing ; picks : night + moon + front + back + rest"
+                + " + if not 1 = 1 or 1 = 1 and 1 = 1 then 1 else 2 end ; sleeps : 1 = 1 ;";
+        good("4: it is whole", whole, 5);
+        String[] tokens = whole.split(" ");
+        for (int i = 0, at = 0; i < tokens.length; i++) {
+            String word = tokens[i];
+            String behind = whole.substring(at + word.length());
+            if (word.length() > 1) {
+                int last = word.length() - 1;
+                String[] others = {"z" + word.substring(1), word.substring(0, last) + "z", word + "z", word.substring(0, last), "x" + word};
+                for (String other : others) {
+                    bad("4: in place of " + word, whole.substring(0, at) + other + behind, 2, at);
+                }
+            }
+            at += word.length() + 1;
+        }
     }
 
     private static void sumsAndTruths() {

@@ -228,6 +228,11 @@ public final class TraysBoundsTest {
     }
 
     private static void toldKinds() {
+        String[] streets = {"a", "aa", "ffffffffffff", "aba", "bab", "abab", "aabbcc", "ccbbaa", "fefefefefefe", "abcdefabcdef", "edcbabcdeabc"};
+        int[] kindsOf = {1, 1, 1, 2, 2, 2, 3, 3, 2, 6, 5};
+        for (int i = 0; i < streets.length; i++) {
+            due.is("42: kinds of " + streets[i], Due.street("street tables 1 moon 0;stands " + streets[i] + ";").told(6), kindsOf[i]);
+        }
         LetterNights x = Due.street("street tables 1 moon 0;rule 0 a : bc;rule 0 b : de;rule 0 c : f;rule 0 d : abcd;rule 0 e : nothing;rule 0 f : nothing;");
         int[] kinds = {1, 2, 3, 4, 6, 6, 6};
         // a, bc, def, abcd, bc de f abcd: all six.

@@ -10,6 +10,8 @@ public final class WordsBoundsTest {
         placesOfNone();
         placesOfMany();
         kthOnes();
+        placesBehindSixtyNights();
+        askedAlone();
         longestAndShortestWords();
         lettersOfWords();
         wordsOnTheEdge();
@@ -22,6 +24,7 @@ public final class WordsBoundsTest {
         fatesOfOne();
         fatesOfMore();
         degrees();
+        fatesByOneTableBehindAnother();
         begins();
         listed();
         listedFarOn();
@@ -115,6 +118,65 @@ public final class WordsBoundsTest {
             due.is("8: b " + k, x.letter(2 * k - 2), 1);
         }
         due.is("10: no more b", x.place(1, b + 1), -1);
+    }
+
+    private static void placesBehindSixtyNights() {
+        // One b more in each night, ahead of all others: the c of the first night comes last.
+        LetterNights x = Due.street("street tables 2 moon 0;stands ac;rule 0 a : ab;rule 1 a : ad;");
+        for (int night = 0; night < 60; night++) {
+            x.night(night == 0 || night == 59 ? 2 : 1);
+        }
+        due.is("7: a, 60 more, c", x.length(), 62);
+        due.is("9: d ahead of c", x.count(3, 61), 2);
+        due.is("10: the first d, of the last night", x.place(3, 1), 1);
+        due.is("10: the last d, of the first night", x.place(3, 2), 60);
+        due.is("8: it stands there", x.letter(60), 3);
+        due.is("8: c", x.letter(61), 2);
+        due.is("9: all b", x.count(1, 62), 58);
+        word(x, "behind sixty nights", "bdc", 1, 59);
+        word(x, "behind sixty nights", "adb", 1, 0);
+        word(x, "behind sixty nights", "bbbbbb", 53, 2);
+        Due.tray(x, 0, 0, 0, 0);
+        due.is("39: the last three", x.lists(0, 59), 3);
+        due.is("19: bdc", x.first(0), 59);
+    }
+
+    /** Each of them is the first question that an object is asked behind its nights. */
+    private static void askedAlone() {
+        for (int nights = 2; nights <= 4; nights++) {
+            // f, then a and b by turns, a at the end.
+            long length = 2L << nights;
+            long[] dueAnswers = {1, length / 2 - 1, 4, length / 2 - 1, 2, 1, 1};
+            for (int question = 0; question < dueAnswers.length; question++) {
+                LetterNights x = Due.street("street tables 1 moon 0;stands fa;rule 0 a : aba;");
+                Due.tray(x, 0, 1);
+                for (int earlier = 0; earlier < dueAnswers.length; earlier++) {
+                    ask(x, earlier, 2);
+                }
+                Due.tray(x, 0, 1);
+                x.nights(nights);
+                due.is("8 to 10, 18, 19, 39: question " + question + " alone", ask(x, question, length), dueAnswers[question]);
+            }
+        }
+    }
+
+    private static long ask(LetterNights x, int question, long length) {
+        switch (question) {
+            case 0:
+                return x.letter(length - 2);
+            case 1:
+                return x.count(1, length - 1);
+            case 2:
+                return x.place(1, 2);
+            case 3:
+                return x.occurs(0);
+            case 4:
+                return x.first(0);
+            case 5:
+                return x.lists(0, length - 1);
+            default:
+                return x.count(1, Math.min(3, length));
+        }
     }
 
     private static void word(LetterNights x, String what, String word, long often, long first) {
@@ -374,6 +436,22 @@ public final class WordsBoundsTest {
         // Of two ways the longer one, and both ends are the same.
         fateOf("rule 0 a : abd;rule 0 b : bc;rule 0 c : cd;", 0, 2, 3);
         fateOf("rule 0 a : ad;rule 0 b : bc;rule 0 d : de;rule 0 e : ef;", 0, 2, 3);
+    }
+
+    private static void fatesByOneTableBehindAnother() {
+        LetterNights x = Due.street("street tables 3 moon 0;rule 0 a : ab;rule 0 b : bc;rule 1 a : nothing;rule 1 b : nothing;rule 1 c : nothing;"
+                + "rule 2 a : aab;rule 2 b : c;rule 2 c : nothing;");
+        int[][] fates = {{2, 2, 1}, {0, 0, 0}, {3, 0, 0}};
+        int[][] degrees = {{2, 1, -1}, {-1, -1, -1}, {-1, -1, -1}};
+        for (int table : new int[] {0, 1, 2, 1, 0, 2, 0}) {
+            for (int letter = 0; letter < 3; letter++) {
+                due.is("22: letter " + letter + " by table " + table, x.fate(table, letter), fates[table][letter]);
+                due.is("23: letter " + letter + " by table " + table, x.degree(table, letter), degrees[table][letter]);
+            }
+        }
+        Texts.tell(x, "street tables 1 moon 0;rule 0 a : b;rule 0 b : nothing;");
+        due.is("22: by another street's table", x.fate(0, 0), 0);
+        due.is("22: by another street's table", x.fate(0, 2), 1);
     }
 
     private static void begins() {
